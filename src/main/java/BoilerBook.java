@@ -913,8 +913,7 @@ public final class BoilerBook {
             tick++;
             pressure = Math.min(most, pressure + heat);
             for (int row = 0; row < rows; row++) {
-                boolean open = state[row] == BOOKED || state[row] == RUNNING;
-                if (open && first[row] <= tick && tick <= last[row]) {
+                if (first[row] <= tick && tick <= last[row] && state[row] != SPOILED) {
                     drawFor(row);
                 }
             }
@@ -969,14 +968,14 @@ public final class BoilerBook {
     /** Tells whether a booking fits, and if not, who would suffer and when. */
     private static final class Judge {
         private final State now;
-        private final Course with;
+        private final Course course;
         private final boolean[] doomedWithout;
         int culprit;
         int spoiledIn;
 
         Judge(State state) {
             now = state;
-            with = new Course();
+            course = new Course();
             doomedWithout = new boolean[MOST_BOOKINGS];
         }
 
@@ -999,15 +998,15 @@ public final class BoilerBook {
         }
 
         private void forecastWithout(int booking) {
-            with.beginWith(now, booking, NOBODY, LEFT_OUT);
-            with.passToEnd();
+            course.beginWith(now, booking, NOBODY, LEFT_OUT);
+            course.passToEnd();
             for (int number = 0; number < MOST_BOOKINGS; number++) {
                 doomedWithout[number] = false;
             }
-            for (int row = 0; row < with.rows; row++) {
-                int number = with.number[row];
+            for (int row = 0; row < course.rows; row++) {
+                int number = course.number[row];
                 if (number >= 0 && number < MOST_BOOKINGS) {
-                    doomedWithout[number] = with.state[row] == SPOILED;
+                    doomedWithout[number] = course.state[row] == SPOILED;
                 }
             }
         }
@@ -1019,22 +1018,22 @@ public final class BoilerBook {
                 return ROBOT_BUSY;
             }
             culprit = NONE;
-            with.beginWith(now, booking, recipe, start);
-            with.passToEnd();
-            int own = with.rowOf(booking);
-            if (own != NOBODY && with.state[own] == SPOILED) {
-                spoiledIn = with.spoiledIn[own];
+            course.beginWith(now, booking, recipe, start);
+            course.passToEnd();
+            int own = course.rowOf(booking);
+            if (own != NOBODY && course.state[own] == SPOILED) {
+                spoiledIn = course.spoiledIn[own];
                 return SELF_DOOMED;
             }
             return reasonByOthers(booking);
         }
 
         private int reasonByOthers(int booking) {
-            for (int row = 0; row < with.rows; row++) {
-                int number = with.number[row];
-                if (number != booking && with.state[row] == SPOILED && !wasDoomed(number)) {
+            for (int row = 0; row < course.rows; row++) {
+                int number = course.number[row];
+                if (number != booking && course.state[row] == SPOILED && !wasDoomed(number)) {
                     culprit = number;
-                    spoiledIn = with.spoiledIn[row];
+                    spoiledIn = course.spoiledIn[row];
                     return OTHERS_DOOMED;
                 }
             }

@@ -11,6 +11,7 @@ public final class BookingTest {
         moveToTheSameStart();
         repair();
         repairCancels();
+        repairMovesOnce();
         wish();
         wishWithoutRoom();
         wishesDropped();
@@ -76,6 +77,12 @@ public final class BookingTest {
         due("why does not mind", x.why(0, 0, 30, 0), 0);
         due("why", x.why(0, 0, 1, 1), 0);
         due("earliest does not mind", x.earliest(0, 0, 1), 11);
+        due("recipe(0, 4)", x.recipe(0, 4), 0);
+        due("robot(5, 0)", x.robot(5, 0), 10);
+        due("count(6)", x.count(6), 60);
+        due("addRecipe", x.addRecipe(3000, 1, 1, 0), 1);
+        due("the 61st would be doomed", x.why(0, 1, 30, 0), 2);
+        due("and when", x.why(0, 1, 30, 2), 30);
         due("cancel(7)", x.cancel(7), 0);
         due("cancelled ones count", x.book(1, 0, 2), -3);
         due("count(5)", x.count(5), 60);
@@ -262,6 +269,30 @@ public final class BookingTest {
         due("fall(500)", x.fall(500), 1);
         due("a running one is not moved", x.repair(), -5);
         due("booking(0, 3)", x.booking(0, 3), 1);
+    }
+
+    private static void repairMovesOnce() {
+        CHECK.promise("promise 9, none is moved twice");
+        BoilerBook x = new BoilerBook();
+        x.setHeat(200);
+        x.setMost(900);
+        x.addRecipe(850, 1, 1, 0);
+        x.addRecipe(850, 100, 2, 0);
+        x.addRecipe(850, 200, 1, 0);
+        due("book", x.book(0, 0, 3), 0);
+        due("book", x.book(1, 1, 1), 1);
+        due("book", x.book(2, 2, 5), 2);
+        due("setHeat(10)", x.setHeat(10), 3);
+        // the first is moved behind the third, which is doomed then, but not without the second, that is cancelled
+        due("repair", x.repair(), 1);
+        due("booking(0, 2)", x.booking(0, 2), 6);
+        due("booking(0, 6)", x.booking(0, 6), 6);
+        due("booking(1, 3)", x.booking(1, 3), 4);
+        due("booking(2, 5)", x.booking(2, 5), 2);
+        due("count(11)", x.count(11), 1);
+        due("repair again", x.repair(), 1);
+        due("booking(0, 2)", x.booking(0, 2), 20);
+        due("repair again", x.repair(), -5);
     }
 
     private static void wish() {

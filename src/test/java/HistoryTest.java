@@ -123,6 +123,27 @@ public final class HistoryTest {
         due("nothing has changed", Check.trace(x), before);
     }
 
+    private static void theWholeState() {
+        BoilerBook x = new BoilerBook();
+        x.addRecipe(5, 6, 7, 8);
+        x.addRecipe(3000, 1, 1, 0);
+        x.book(3, 0, 9);
+        x.wish(2, 1, 4);
+        due("keep", x.keep(), 0);
+        long kept = Check.trace(x);
+        for (int left = 3; left >= 0; left--) {
+            due("undo", x.undo(), left);
+        }
+        due("nothing is left", x.count(4), 0);
+        x.addRecipe(1, 2, 3, 4);
+        x.addRecipe(2999, 11, 12, 1);
+        x.book(1, 0, 2);
+        x.wish(0, 1, 3);
+        due("another state", Check.trace(x) != kept ? 1 : 0, 1);
+        due("restore", x.restore(), 0);
+        due("every part is as it was", Check.trace(x), kept);
+    }
+
     private static void snapshot() {
         CHECK.promise("promises 17 and 18");
         BoilerBook x = busyBoiler();
@@ -154,6 +175,7 @@ public final class HistoryTest {
         x.undo();
         x.undo();
         due("undo leaves the snapshot", x.restore(), 4);
+        theWholeState();
         BoilerBook y = new BoilerBook();
         due("a snapshot of a new object", y.keep(), 0);
         y.pass(9);
