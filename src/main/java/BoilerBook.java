@@ -76,7 +76,7 @@ public final class BoilerBook {
         history = new History();
         text = new Text();
         course = new Course();
-        judge = new Judge(now);
+        judge = new Judge();
         repaired = new boolean[MOST_BOOKINGS];
     }
 
@@ -166,7 +166,9 @@ public final class BoilerBook {
         if (!now.canStart(start)) {
             return BAD_VALUE;
         }
-        int error = errorOf(judge.reasonAgainst(booking, bookings.robot[booking], bookings.recipe[booking], start));
+        int robot = bookings.robot[booking];
+        int recipe = bookings.recipe[booking];
+        int error = errorOf(judge.reasonAgainst(now, booking, robot, recipe, start));
         // NONE waits behind BUSY and TOO_LOW, as it is returned only if no error applies
         if (error != NO_ERROR) {
             return error;
@@ -206,7 +208,7 @@ public final class BoilerBook {
         if (!now.canStart(first)) {
             return BAD_VALUE;
         }
-        int start = judge.firstFit(now.bookings.size, robot, recipe, first, first + WISH_REACH);
+        int start = judge.firstFit(now, now.bookings.size, robot, recipe, first, first + WISH_REACH);
         if (start != NONE && now.bookings.size < MOST_BOOKINGS) {
             history.push(now);
             now.granted++;
@@ -356,7 +358,7 @@ public final class BoilerBook {
             case 0: return wishes.robot[place];
             case 1: return wishes.recipe[place];
             case 2: return wishes.first[place];
-            case 3: return judge.firstFit(now.bookings.size, wishes.robot[place], wishes.recipe[place],
+            case 3: return judge.firstFit(now, now.bookings.size, wishes.robot[place], wishes.recipe[place],
                     wishes.first[place], wishes.first[place] + WISH_REACH);
             default: return BAD_VALUE;
         }
@@ -387,7 +389,7 @@ public final class BoilerBook {
         if (!now.canStart(start) || !within(what, 0, 2)) {
             return BAD_VALUE;
         }
-        int reason = judge.reasonAgainst(now.bookings.size, robot, recipe, start);
+        int reason = judge.reasonAgainst(now, now.bookings.size, robot, recipe, start);
         switch (what) {
             case 0: return reason;
             case 1: return judge.culprit;
@@ -402,7 +404,7 @@ public final class BoilerBook {
         if (!now.canStart(from)) {
             return BAD_VALUE;
         }
-        return judge.firstFit(now.bookings.size, robot, recipe, from, from + START_REACH);
+        return judge.firstFit(now, now.bookings.size, robot, recipe, from, from + START_REACH);
     }
 
     public int count(int what) {
@@ -455,7 +457,7 @@ public final class BoilerBook {
         if (now.bookings.size >= MOST_BOOKINGS) {
             return FULL;
         }
-        return errorOf(judge.reasonAgainst(now.bookings.size, robot, recipe, start));
+        return errorOf(judge.reasonAgainst(now, now.bookings.size, robot, recipe, start));
     }
 
     private void forecastToEnd() {
@@ -495,7 +497,7 @@ public final class BoilerBook {
             int recipe = wishes.recipe[place];
             int first = wishes.first[place];
             boolean room = now.bookings.size < MOST_BOOKINGS;
-            int start = room ? judge.firstFit(now.bookings.size, robot, recipe, first, first + WISH_REACH) : NONE;
+            int start = room ? judge.firstFit(now, now.bookings.size, robot, recipe, first, first + WISH_REACH) : NONE;
             if (start == NONE) {
                 place++;
             } else {
@@ -530,7 +532,7 @@ public final class BoilerBook {
             return false;
         }
         repaired[booking] = true;
-        int start = judge.firstFit(booking, bookings.robot[booking], bookings.recipe[booking],
+        int start = judge.firstFit(now, booking, bookings.robot[booking], bookings.recipe[booking],
                 bookings.start[booking] + 1, bookings.start[booking] + START_REACH);
         if (start == NONE) {
             bookings.state[booking] = CANCELLED;
@@ -967,37 +969,35 @@ public final class BoilerBook {
 
     /** Tells whether a booking fits, and if not, who would suffer and when. */
     private static final class Judge {
-        private final State now;
         private final Course course;
         private final boolean[] doomedWithout;
         int culprit;
         int spoiledIn;
 
-        Judge(State state) {
-            now = state;
+        Judge() {
             course = new Course();
             doomedWithout = new boolean[MOST_BOOKINGS];
         }
 
-        int reasonAgainst(int booking, int robot, int recipe, int start) {
-            forecastWithout(booking);
-            return reasonNow(booking, robot, recipe, start);
+        int reasonAgainst(State now, int booking, int robot, int recipe, int start) {
+            forecastWithout(now, booking);
+            return reasonNow(now, booking, robot, recipe, start);
         }
 
         /** The first start between the two at which it fits, of those that a booking can have now, or NONE. */
-        int firstFit(int booking, int robot, int recipe, int from, int to) {
-            forecastWithout(booking);
+        int firstFit(State now, int booking, int robot, int recipe, int from, int to) {
+            forecastWithout(now, booking);
             int earliestStart = Math.max(from, now.tick + 1);
             int latestStart = Math.min(to, now.tick + START_REACH);
             for (int start = earliestStart; start <= latestStart; start++) {
-                if (reasonNow(booking, robot, recipe, start) == FITS) {
+                if (reasonNow(now, booking, robot, recipe, start) == FITS) {
                     return start;
                 }
             }
             return NONE;
         }
 
-        private void forecastWithout(int booking) {
+        private void forecastWithout(State now, int booking) {
             course.beginWith(now, booking, NOBODY, LEFT_OUT);
             course.passToEnd();
             for (int number = 0; number < MOST_BOOKINGS; number++) {
@@ -1011,7 +1011,7 @@ public final class BoilerBook {
             }
         }
 
-        private int reasonNow(int booking, int robot, int recipe, int start) {
+        private int reasonNow(State now, int booking, int robot, int recipe, int start) {
             spoiledIn = NONE;
             culprit = now.firstMeeting(robot, start, now.recipes.lastBusy(recipe, start), booking);
             if (culprit != NOBODY) {
