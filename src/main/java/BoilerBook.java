@@ -57,6 +57,8 @@ public final class BoilerBook {
     private static final int WISH_WAITS = 1000;
     private static final int SPARE_BASE = 10000;
     private static final int FAULT_BASE = -100;
+    // more than any pressure, and than any pressure less a floor
+    private static final int ABOVE_ALL = 1000000;
 
     private final State now;
     private final State before;
@@ -865,7 +867,7 @@ public final class BoilerBook {
             pressure = from.pressure;
             most = from.most;
             heat = from.heat;
-            lowest = Integer.MAX_VALUE;
+            lowest = ABOVE_ALL;
             taken = 0;
             rows = 0;
             // rows stand by their number, which is the order in which they draw
@@ -891,7 +893,7 @@ public final class BoilerBook {
             state[rows] = known ? from.bookings.state[booking] : BOOKED;
             drawn[rows] = known ? from.bookings.drawn[booking] : 0;
             spoiledIn[rows] = NONE;
-            leastSpare[rows] = Integer.MAX_VALUE;
+            leastSpare[rows] = ABOVE_ALL;
             floor[rows] = from.recipes.floor[recipe];
             draw[rows] = from.recipes.draw[recipe];
             first[rows] = start;
