@@ -1,10 +1,13 @@
 import java.io.IOException;
+import java.lang.reflect.Array;
 import java.lang.reflect.Constructor;
 import java.lang.reflect.Field;
 import java.lang.reflect.Method;
 import java.lang.reflect.Modifier;
 import java.nio.file.Files;
 import java.nio.file.Path;
+import java.util.Collections;
+import java.util.IdentityHashMap;
 import java.util.Set;
 import java.util.TreeSet;
 import java.util.regex.Matcher;
@@ -19,11 +22,12 @@ public final class LanguageTest {
             "recipe(int,int)", "robot(int,int)", "booking(int,int)", "wishTold(int,int)", "pressureIn(int)",
             "lowestIn(int)", "why(int,int,int,int)", "earliest(int,int,int)", "count(int)");
 
-    public static void main(String[] args) throws IOException {
+    public static void main(String[] args) throws IOException, IllegalAccessException {
         constants();
         face();
         nestedClasses();
         source();
+        room();
         CHECK.end();
     }
 
@@ -130,6 +134,58 @@ public final class LanguageTest {
             holds(library.group() + " is in the library", allowed.contains(library.group()));
         }
         checkLengths(code.split("\n"));
+        onlyConstructorsMake(code.split("\n"));
+    }
+
+    /** So that a call costs no room, however often it is made. */
+    private static void onlyConstructorsMake(String[] lines) {
+        CHECK.promise("rule 12");
+        Pattern constructor = Pattern.compile("( {4}| {8})(public |private )?[A-Z]\\w*\\(.*\\) \\{");
+        Pattern making = Pattern.compile("\\bnew\\b|\\.clone\\(|\\bcopyOf");
+        int made = 0;
+        String end = "";
+        for (String line : lines) {
+            Matcher head = constructor.matcher(line);
+            if (head.matches()) {
+                end = head.group(1) + "}";
+            } else if (line.equals(end)) {
+                end = "";
+            } else if (making.matcher(line).find()) {
+                made++;
+                holds("'" + line.strip() + "' stands in a constructor", !end.isEmpty());
+            }
+        }
+        holds("what is made is found", made > 30);
+    }
+
+    /** What one object of the program holds, of the 600,000 objects and 7.3 million cells that a run has. */
+    private static void room() throws IllegalAccessException {
+        CHECK.promise("the room");
+        Set<Object> seen = Collections.newSetFromMap(new IdentityHashMap<>());
+        long cells = cells(new BoilerBook(), seen);
+        holds(seen.size() + " objects are few", seen.size() > 100 && seen.size() <= 200);
+        holds(cells + " fields and elements are few", cells > 3000 && cells <= 5000);
+    }
+
+    private static long cells(Object one, Set<Object> seen) throws IllegalAccessException {
+        if (one == null || !seen.add(one)) {
+            return 0;
+        }
+        long cells = 0;
+        if (one.getClass().isArray()) {
+            boolean ofObjects = !one.getClass().getComponentType().isPrimitive();
+            for (int i = 0; i < Array.getLength(one); i++) {
+                cells += 1 + (ofObjects ? cells(Array.get(one, i), seen) : 0);
+            }
+            return cells;
+        }
+        for (Field field : one.getClass().getDeclaredFields()) {
+            if (!Modifier.isStatic(field.getModifiers())) {
+                field.setAccessible(true);
+                cells += 1 + (field.getType().isPrimitive() ? 0 : cells(field.get(one), seen));
+            }
+        }
+        return cells;
     }
 
     private static void checkLengths(String[] lines) {
